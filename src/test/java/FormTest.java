@@ -18,6 +18,7 @@ public final class FormTest {
         String code = source.replaceAll("(?s)/\\*.*?\\*/", "").replaceAll("//[^\n]*", "");
         words(code);
         library(code);
+        madeOnce(code.split("\n"));
         methods(source.split("\n"));
         Due.end();
     }
@@ -46,6 +47,15 @@ public final class FormTest {
             .matcher(code);
         while (uses.find()) {
             Due.holds("use of " + uses.group(), fine.contains(uses.group()) || uses.group().startsWith("java"));
+        }
+    }
+
+    /** All calls of a run live in one room: rows and objects are made with the object, none by a call. */
+    private static void madeOnce(String[] lines) {
+        for (String line : lines) {
+            boolean field = line.matches(" +final \\S+ \\S+ = new .*;");
+            boolean inConstructor = line.matches("        [a-z]+ = new [A-Z][a-z]+\\(.*\\);");
+            Due.holds("made once: " + line, !line.contains("new ") || field || inConstructor);
         }
     }
 

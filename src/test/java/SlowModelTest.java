@@ -53,7 +53,7 @@ public final class SlowModelTest {
         }
     }
 
-    /** Matches of many judges and papers, with bids that hardly leave two alike. */
+    /** Matches of many judges and papers; by turns bids of which few sums, and many, are alike. */
     private void goThroughMatches() throws IllegalAccessException, InvocationTargetException {
         int judges = pick(3, 6);
         for (int i = 0; i < judges; i++) {
@@ -65,7 +65,8 @@ public final class SlowModelTest {
         }
         for (int round = 0; round < 6; round++) {
             for (int i = 0; i < 25; i++) {
-                call("bid", pick(0, judges - 1), pick(0, papers - 1), pick(0, 3));
+                int bid = run % 2 == 0 ? pick(0, 3) : pick(0, 1);
+                call("bid", pick(0, judges - 1), pick(0, papers - 1), bid);
             }
             call("tie", 0, pick(1, judges - 1), pick(-1, 1));
             int k = pick(1, 3);
