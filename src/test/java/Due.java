@@ -28,6 +28,13 @@ final class Due {
         fraction(call, upper, lower, PaperMarks.LOST + refusal, PaperMarks.LOST + refusal);
     }
 
+    /** Says a text's signs where the answers do not matter. */
+    static void say(PaperMarks x, String text) {
+        for (int i = 0; i < text.length(); i++) {
+            x.say(text.charAt(i));
+        }
+    }
+
     static void saySigns(PaperMarks x, String text) {
         for (int i = 0; i < text.length(); i++) {
             is("say " + text.charAt(i) + " of " + text, x.say(text.charAt(i)), x.told(2));

@@ -48,7 +48,8 @@ public final class SlowModelTest {
             call("paper", pick(0, 5), random.nextBoolean() ? PaperMarks.NONE : pick(0, judges - 1));
         }
         boolean calm = run % 2 == 0;
-        while (calls < 500) {
+        // A text has up to 69 signs (more than fit), and wipe, fault and rule go with it.
+        while (calls < 512 - 72) {
             one(calm);
         }
     }
@@ -102,14 +103,17 @@ public final class SlowModelTest {
     }
 
     private void one(boolean c) throws IllegalAccessException, InvocationTargetException {
-        int judge = some(c, 0, Math.max(0, object.told(0) - 1));
-        int paper = some(c, 0, Math.max(0, object.told(1) - 1));
-        int bits = some(c, 0, (1 << object.told(0)) - 1);
+        // The model is asked, so that the object has no more than its 512 calls.
+        int judges = (int) model.call("told", 0);
+        int papers = (int) model.call("told", 1);
+        int judge = some(c, 0, Math.max(0, judges - 1));
+        int paper = some(c, 0, Math.max(0, papers - 1));
+        int bits = some(c, 0, (1 << judges) - 1);
         int part = some(c, 0, 1);
         switch (random.nextInt(34)) {
             case 0: call("judge", some(c, -2, 2), some(c, 0, 2)); break;
             case 1: call("paper", some(c, 0, 5), random.nextBoolean() ? judge : PaperMarks.NONE); break;
-            case 2: case 3: call("tie", judge, some(c, 0, Math.max(0, object.told(0) - 1)), some(c, -1, 1)); break;
+            case 2: case 3: call("tie", judge, some(c, 0, Math.max(0, judges - 1)), some(c, -1, 1)); break;
             case 4: case 5: case 6: call("mark", judge, paper, some(c, -1, 5)); break;
             case 7: call("mark", judge, paper, 4); break;
             case 8: call("set", some(c, 0, 1), judge, 1 << random.nextInt(2) | random.nextInt(2) << 5); break;
@@ -120,7 +124,7 @@ public final class SlowModelTest {
             case 13: call(random.nextInt(8) == 0 ? "wipe" : "rule"); break;
             case 14: call("yes", paper); break;
             case 15: case 16: call("taken", paper, bits, part); break;
-            case 17: call("lot", paper, bits, some(c, 0, (1 << object.told(0)) - 1), part); break;
+            case 17: call("lot", paper, bits, some(c, 0, (1 << judges) - 1), part); break;
             case 18: call("right", some(c, 1, 5), bits, part); break;
             case 19: call("more", judge, some(c, 1, 5), bits & ~(1 << judge), part); break;
             case 20: call("more", judge, some(c, 1, 5), bits, part); break;
