@@ -1,5 +1,6 @@
 import java.util.ArrayList;
 import java.util.List;
+import java.util.function.Consumer;
 
 /**
  * Looks at an object's whole state, in views of fewer than 250 calls each. A view may change the
@@ -9,6 +10,16 @@ final class Look {
     static final int VIEWS = 8;
 
     private Look() {
+    }
+
+    /** Some calls, all together few, leave nothing behind in a state. */
+    static void unchanged(String what, State state, Consumer<PaperMarks> calls) {
+        for (int view = 0; view < VIEWS; view++) {
+            PaperMarks x = state.made().get();
+            calls.accept(x);
+            Due.holds(what + " change nothing in state " + state.name() + ", view " + view,
+                at(x, view).equals(at(state.made().get(), view)));
+        }
     }
 
     static List<Long> at(PaperMarks x, int view) {

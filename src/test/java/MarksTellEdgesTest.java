@@ -1,6 +1,6 @@
 /** The boundary cases of promises 17 to 23: worth, joined, parts, harsh, swap, ring, seen. */
 public final class MarksTellEdgesTest {
-    private static final int UNKNOWN = PaperMarks.UNKNOWN, NONE = PaperMarks.NONE;
+    private static final int NONE = PaperMarks.NONE;
     private static final int LEAST = Integer.MIN_VALUE, GREATEST = Integer.MAX_VALUE;
 
     public static void main(String[] args) {
@@ -12,6 +12,7 @@ public final class MarksTellEdgesTest {
         worthWithTies();
         joinedRefusals();
         joinedWithNobodyAndAll();
+        joinedByTheLongestWay();
         partsFromNoneToSix();
         harshRefusals();
         harshWithoutSuchMarks();
@@ -170,6 +171,28 @@ public final class MarksTellEdgesTest {
         Due.is("that one", x.joined(3), 0);
         x.mark(3, 0, 5);
         Due.is("itself too", x.joined(3), 8);
+    }
+
+    /** The longest way from one to another: five papers, in each order of going through them. */
+    private static void joinedByTheLongestWay() {
+        for (int turn = 0; turn < 2; turn++) {
+            PaperMarks x = judges(6, 0, 0);
+            papers(x, NONE, NONE, NONE, NONE, NONE, NONE);
+            for (int i = 0; i < 5; i++) {
+                int paper = turn == 0 ? i : 5 - i;
+                x.mark(i, paper, 0);
+                x.mark(i + 1, paper, 5);
+            }
+            for (int judge = 0; judge < 6; judge++) {
+                Due.is("all from " + judge, x.joined(judge), 63);
+            }
+            Due.is("one part", x.parts(), 1);
+            x.mark(2, turn == 0 ? 2 : 3, -1);
+            for (int judge = 0; judge < 6; judge++) {
+                Due.is("cut in two, from " + judge, x.joined(judge), judge < 3 ? 7 : 56);
+            }
+            Due.is("two parts", x.parts(), 2);
+        }
     }
 
     private static void partsFromNoneToSix() {
@@ -505,8 +528,7 @@ public final class MarksTellEdgesTest {
 
     private static void askingChangesNothing() {
         for (State state : State.ALL) {
-            for (int view = 0; view < Look.VIEWS; view++) {
-                PaperMarks x = state.made().get();
+            Look.unchanged("what marks tell", state, x -> {
                 x.worth(0, 5, 0);
                 x.joined(0);
                 x.parts();
@@ -516,10 +538,7 @@ public final class MarksTellEdgesTest {
                 x.ring(0);
                 x.ring(GREATEST);
                 x.seen(0, 1);
-                Due.holds("state " + state.name() + ", view " + view,
-                    Look.at(x, view).equals(Look.at(state.made().get(), view)));
-            }
+            });
         }
-        Due.is("nobody there", new PaperMarks().joined(0), UNKNOWN);
     }
 }

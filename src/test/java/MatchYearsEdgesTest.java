@@ -285,6 +285,12 @@ public final class MatchYearsEdgesTest {
         held("and round", x, 0, 1);
         x.set(2, 1, -1);
         held("none is not a low number", x, 0, 0);
+        x.set(2, 1, 0);
+        x.set(2, 0, -1);
+        held("nor that of the first paper", x, 0, 0);
+        x.mark(0, 0, -1);
+        x.set(2, 0, 9);
+        held("no marks are not low ones", x, 0, 0);
     }
 
     private static void meansAreHeldExactly() {
@@ -341,19 +347,14 @@ public final class MatchYearsEdgesTest {
 
     private static void askingChangesNothing() {
         for (State state : State.ALL) {
-            for (int view = 0; view < Look.VIEWS; view++) {
-                PaperMarks x = state.made().get();
+            Look.unchanged("matches and counts", state, x -> {
                 x.match(3, 4, -1);
                 x.match(1, 1, 0);
                 x.match(2, 1, -1);
                 x.held(0);
                 x.held(1);
                 x.told(4);
-                x.fault();
-                x.yes(0);
-                Due.holds("state " + state.name() + ", view " + view,
-                    Look.at(x, view).equals(Look.at(state.made().get(), view)));
-            }
+            });
         }
     }
 }

@@ -9,6 +9,7 @@ public final class OddsEdgesTest {
         takenRefusals();
         takenByNobody();
         takenSurelyAndNever();
+        aMarkOf0IsAMark();
         takenLeastAndGreatestOdds();
         takenLeavesTheWriterOut();
         judgesOfEachCount();
@@ -93,6 +94,24 @@ public final class OddsEdgesTest {
         taken("surely, by six", x, 0, ALL_SIX, 1, 1);
         taken("never, by one", x, 1, 32, 0, 1);
         taken("never, by six", x, 1, ALL_SIX, 0, 1);
+    }
+
+    private static void aMarkOf0IsAMark() {
+        PaperMarks x = new PaperMarks();
+        x.judge(-2, 0);
+        x.judge(2, 0);
+        x.judge(-1, 1);
+        x.paper(2, NONE);
+        Due.makeRule(x, "g>30", 1);
+        taken("0 with 4: the greatest", x, 0, 3, 1, 1);
+        Due.makeRule(x, "a>19", 1);
+        taken("0 with 4: the mean", x, 0, 3, 1, 1);
+        Due.makeRule(x, "a>20", 1);
+        taken("0 with 4: the mean is no more", x, 0, 3, 0, 1);
+        Due.makeRule(x, "m>0", 1);
+        taken("0 with 4: the lower one", x, 0, 3, 0, 1);
+        taken("0 in one of four ways", x, 0, 4, 3, 4);
+        taken("0, 4, and 0 in one of four ways", x, 0, 7, 3, 4);
     }
 
     private static void takenLeastAndGreatestOdds() {
@@ -260,6 +279,15 @@ public final class OddsEdgesTest {
             Due.is("among itself", good.more(judge, 4, 1 << judge, 1), LOST + OUTSIDE);
             more("beside all others", good, judge, 4, ALL_SIX - (1 << judge), 0, 1);
         }
+        // Beside five who must slip upwards, a sixth who must not slip downwards.
+        PaperMarks least = new PaperMarks();
+        for (int judge = 0; judge < 6; judge++) {
+            least.judge(judge == 5 ? 1 : 0, 1);
+        }
+        least.paper(3, NONE);
+        Due.makeRule(least, "l>30?1", 1);
+        more("the least below 0", least, 5, 3, 31, -1, 16384);
+        more("the least over 0", least, 5, 4, 31, 1, 16384);
         // With the sixth the odds are 1 of 16384, without it 1 of 4096.
         more("below 0", six(0, 1, "l>30?1", 3), 5, 3, 31, -3, 16384);
         more("over 0", six(0, 1, "l>30?1", 3), 5, 4, 31, 3, 16384);
@@ -324,18 +352,15 @@ public final class OddsEdgesTest {
 
     private static void askingChangesNothing() {
         for (State state : new State[] {State.SOME, State.FULL}) {
-            for (int view = 0; view < Look.VIEWS; view++) {
-                PaperMarks x = state.made().get();
-                int last = state.papers() - 1;
-                int all = (1 << state.judges()) - 1;
+            int last = state.papers() - 1;
+            int all = (1 << state.judges()) - 1;
+            Look.unchanged("odds", state, x -> {
                 x.taken(last, all, 0);
                 x.lot(0, all, 1, 1);
                 x.right(3, all, 0);
                 x.more(0, 3, all - 1, 1);
                 x.rounds(last, all, 4, 1, 0);
-                Due.holds("state " + state.name() + ", view " + view,
-                    Look.at(x, view).equals(Look.at(state.made().get(), view)));
-            }
+            });
         }
     }
 }

@@ -26,6 +26,7 @@ public final class RulesEdgesTest {
         lowerOfTwoMiddleOnes();
         coinBounds();
         firstClauseDecides();
+        askingChangesNothing();
         Due.end();
     }
 
@@ -200,18 +201,9 @@ public final class RulesEdgesTest {
     }
 
     private static void ruleWithFaultChangesNothing() {
-        String[] faults = {"", "!", "a", "a>", "a>1;", "a>1?", "a>1?4", "a>123", "a>1;b"};
-        for (String fault : faults) {
-            for (int view = 0; view < Look.VIEWS; view++) {
-                PaperMarks x = State.SOME.made().get();
-                PaperMarks y = State.SOME.made().get();
-                x.wipe();
-                y.wipe();
-                Due.say(x, fault);
-                Due.say(y, fault);
-                Due.is("rule of " + fault, x.rule(), NO);
-                Due.holds("signs and rule stay, " + fault + ", view " + view, Look.at(x, view).equals(Look.at(y, view)));
-            }
+        for (String fault : new String[] {"", "!", "a", "a>", "a>1;", "a>1?", "a>1?4", "a>123", "a>1;b"}) {
+            State faulty = new State("fault " + fault, () -> withSigns(fault), 3, 2, true);
+            Look.unchanged("rule of a fault", faulty, x -> Due.is("rule of " + fault, x.rule(), NO));
         }
         PaperMarks x = new PaperMarks();
         Due.is("no signs at all", x.rule(), NO);
@@ -220,6 +212,13 @@ public final class RulesEdgesTest {
         Due.is("more must come", x.rule(), NO);
         Due.saySigns(x, "l>1");
         Due.is("the signs stood, the text goes on", x.rule(), 2);
+    }
+
+    private static PaperMarks withSigns(String text) {
+        PaperMarks x = State.SOME.made().get();
+        x.wipe();
+        Due.say(x, text);
+        return x;
     }
 
     private static void ruleTakesTheSigns() {
@@ -345,5 +344,15 @@ public final class RulesEdgesTest {
         yesIs("none of ten", marked(0, 4), "l>9;l>9;l>9;l>9;l>9;l>9;l>9;l>9;l>9;g>49", 0);
         yesIs("the first of ten", x, "g>9;g>9;g>9;g>9;g>9;g>9;g>9;g>9;g>9;g>9", 4);
         yesIs("the second of two", x, "l>99;g>9?2", 2);
+    }
+
+    private static void askingChangesNothing() {
+        for (State state : State.ALL) {
+            Look.unchanged("fault and yes", state, x -> {
+                x.fault();
+                x.fault();
+                x.yes(0);
+            });
+        }
     }
 }

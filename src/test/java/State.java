@@ -11,8 +11,8 @@ record State(String name, Supplier<PaperMarks> made, int judges, int papers, boo
     static final State FULL = new State("full", State::full, 6, 6, true);
     static final State[] ALL = {NOTHING, SOME, NO_RULE, FULL};
 
-    /** The papers' writers in the full state. The last paper of every state has none. */
-    static final int[] FULL_WRITERS = {0, 1, 2, 0, 5, PaperMarks.NONE};
+    /** The papers' writers in the full state. Judges 0 and 1 may mark the last paper of every state. */
+    static final int[] FULL_WRITERS = {0, 1, PaperMarks.NONE, 0, 5, 3};
 
     /** 40 signs without a fault: the signs of the full state. */
     static final String FORTY = "g>49?3;m>20;l>9?1;a>25?2;g>30;l>15;a>1?1";
@@ -52,7 +52,8 @@ record State(String name, Supplier<PaperMarks> made, int judges, int papers, boo
     private static PaperMarks full() {
         PaperMarks x = new PaperMarks();
         for (int i = 0; i < 6; i++) {
-            x.judge(i % 5 - 2, i % 3);
+            // The last judge and paper are unlike any that is tried as one too many.
+            x.judge((i + 1) % 5 - 2, (i + 2) % 3);
         }
         for (int i = 0; i < 6; i++) {
             x.paper((3 * i + 1) % 6, FULL_WRITERS[i]);
