@@ -1,8 +1,11 @@
+import java.io.IOException;
 import java.lang.reflect.Constructor;
 import java.lang.reflect.Field;
 import java.lang.reflect.Member;
 import java.lang.reflect.Method;
 import java.lang.reflect.Modifier;
+import java.nio.file.Files;
+import java.nio.file.Path;
 import java.util.Arrays;
 import java.util.TreeSet;
 
@@ -15,10 +18,12 @@ public final class FaceTest {
         "long worth 3", "int joined 1", "int parts 0", "long harsh 2", "int swap 1", "int ring 1", "int seen 2",
         "int bid 3", "int match 3", "int held 1", "int told 1"};
 
-    public static void main(String[] args) throws IllegalAccessException {
+    public static void main(String[] args) throws IllegalAccessException, IOException {
         Class<?> face = PaperMarks.class;
         Due.holds("public and final", Modifier.isPublic(face.getModifiers()) && Modifier.isFinal(face.getModifiers()));
         Due.holds("no package", face.getPackageName().isEmpty());
+        Due.holds("it extends nothing", face.getSuperclass() == Object.class && face.getInterfaces().length == 0);
+        headsOfTheDocument();
         methods(face);
         constants(face);
         for (Constructor<?> made : face.getDeclaredConstructors()) {
@@ -32,6 +37,24 @@ public final class FaceTest {
         fewFields(face);
         Due.holds("at most twelve classes", face.getDeclaredClasses().length < 12);
         Due.end();
+    }
+
+    /** Each line of the document's face stands in the source, with its names. */
+    private static void headsOfTheDocument() throws IOException {
+        String document = Files.readString(Path.of("../shared/DOC.md"));
+        String source = Files.readString(Path.of("src/main/java/PaperMarks.java"));
+        int from = document.indexOf("public final class PaperMarks {");
+        String block = document.substring(from, document.indexOf("```", from));
+        int heads = 0;
+        for (String line : block.split("\n")) {
+            if (line.startsWith("    public ")) {
+                String head = line.endsWith(");") ? line.substring(0, line.length() - 1) + " {" : line;
+                Due.holds("the source has" + line, source.contains("\n" + head + "\n"));
+                heads++;
+            }
+        }
+        // The constants' two lines and the constructor's go with the methods.
+        Due.is("lines of the document's face", heads, METHODS.length + 3);
     }
 
     private static void methods(Class<?> face) {

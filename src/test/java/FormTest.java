@@ -18,6 +18,8 @@ public final class FormTest {
         String code = source.replaceAll("(?s)/\\*.*?\\*/", "").replaceAll("//[^\n]*", "");
         words(code);
         library(code);
+        loops(code.split("\n"));
+        statics(code.split("\n"));
         madeOnce(code.split("\n"));
         methods(source.split("\n"));
         Due.end();
@@ -47,6 +49,28 @@ public final class FormTest {
             .matcher(code);
         while (uses.find()) {
             Due.holds("use of " + uses.group(), fine.contains(uses.group()) || uses.group().startsWith("java"));
+        }
+    }
+
+    /** Each loop counts upwards against a bound, in its own line. */
+    private static void loops(String[] lines) {
+        int seen = 0;
+        for (String line : lines) {
+            Due.holds("no loop but for: " + line, !line.matches(".*\\b(while|do)\\b.*"));
+            if (line.matches(".*\\bfor\\b.*")) {
+                Due.holds("counted: " + line,
+                    line.matches(" +for \\(int (\\w+) = [^;]+; \\1 <=? [^;]+; \\1\\+\\+\\) \\{"));
+                seen++;
+            }
+        }
+        Due.holds("loops seen: " + seen, seen > 20);
+    }
+
+    private static void statics(String[] lines) {
+        for (String line : lines) {
+            boolean head = line.endsWith("{");
+            boolean constant = line.matches(" +(public |private )?static final (int|long) [A-Z][A-Z_]* = .*;");
+            Due.holds("a constant: " + line, !line.matches(".*\\bstatic\\b.*") || head || constant);
         }
     }
 

@@ -15,6 +15,7 @@ public final class MatchYearsEdgesTest {
         noWriterAndNoFoe();
         mostBidsThereCanBe();
         firstOfSeveralByPaper0First();
+        onePaperShiftsAllOthers();
         heldRefusals();
         heldOfNothing();
         heldOfAllPairs();
@@ -203,6 +204,31 @@ public final class MatchYearsEdgesTest {
         matchIs("sets as bits: 0 and 1 are least", z, 2, 1, 2, 3);
         z.bid(0, 0, 0);
         matchIs("sets as bits: 1 and 2", z, 2, 1, 2, 6);
+    }
+
+    /**
+     * Papers 0 to 4 would all have the judge above theirs, but paper 5 can have none but judge 5. So paper
+     * 4 has to take judge 4, and paper 3 judge 3; then that all others go one down, too, is as good as that
+     * paper 2 alone takes judge 0, and is the first by paper 0.
+     */
+    private static void onePaperShiftsAllOthers() {
+        PaperMarks x = judgesAndPapers(6, 3);
+        x.paper(0, 2);
+        x.paper(0, 0);
+        x.paper(0, 1);
+        int[][] foes = {{0, 1}, {0, 2}, {0, 3}, {1, 2}, {1, 3}, {1, 4}, {2, 5}};
+        for (int[] pair : foes) {
+            x.tie(pair[0], pair[1], -1);
+        }
+        for (int paper = 0; paper < 5; paper++) {
+            x.bid(paper + 1, paper, 3);
+            x.bid(paper, paper, 2);
+        }
+        matchIs("one down", x, 1, 1, 10, 1, 2, 4, 8, 16, 32);
+        x.bid(0, 2, 1);
+        matchIs("paper 2 alone", x, 1, 1, 11, 2, 4, 1, 8, 16, 32);
+        x.tie(1, 0, 0);
+        matchIs("paper 5 may have judge 0", x, 1, 1, 15, 2, 4, 8, 16, 32, 1);
     }
 
     // ---- promise 26

@@ -12,6 +12,11 @@ import java.util.Random;
  */
 public final class SlowModelTest {
     private static final int RUNS = 120;
+    private static final int MOST_CALLS = 512;
+    /** Kinds of calls, each a case below. */
+    private static final int KINDS = 34, TEXT = 11, TOLD = 33;
+    /** A text has up to 69 signs (more than fit), and wipe, fault and rule go with it. */
+    private static final int CALLS_OF_TEXT = 72;
     private static final int[] WILD = {-7, -6, -5, -3, -2, -1, 6, 7, 10, 31, 32, 63, 64, 127, 1 << 30,
         Integer.MAX_VALUE, Integer.MIN_VALUE};
     private static final Map<String, Method> CALLS = new HashMap<>();
@@ -48,10 +53,11 @@ public final class SlowModelTest {
             call("paper", pick(0, 5), random.nextBoolean() ? PaperMarks.NONE : pick(0, judges - 1));
         }
         boolean calm = run % 2 == 0;
-        // A text has up to 69 signs (more than fit), and wipe, fault and rule go with it.
-        while (calls < 512 - 72) {
-            one(calm);
+        while (calls < MOST_CALLS) {
+            int kind = random.nextInt(KINDS);
+            one(calm, kind == TEXT && calls > MOST_CALLS - CALLS_OF_TEXT ? TOLD : kind);
         }
+        Due.is("run " + run + " has as many calls as an object is used for", calls, 512);
     }
 
     /** Matches of many judges and papers; by turns bids of which few sums, and many, are alike. */
@@ -102,7 +108,7 @@ public final class SlowModelTest {
         Due.is(told, got, model.call(name, numbers));
     }
 
-    private void one(boolean c) throws IllegalAccessException, InvocationTargetException {
+    private void one(boolean c, int kind) throws IllegalAccessException, InvocationTargetException {
         // The model is asked, so that the object has no more than its 512 calls.
         int judges = (int) model.call("told", 0);
         int papers = (int) model.call("told", 1);
@@ -110,7 +116,7 @@ public final class SlowModelTest {
         int paper = some(c, 0, Math.max(0, papers - 1));
         int bits = some(c, 0, (1 << judges) - 1);
         int part = some(c, 0, 1);
-        switch (random.nextInt(34)) {
+        switch (kind) {
             case 0: call("judge", some(c, -2, 2), some(c, 0, 2)); break;
             case 1: call("paper", some(c, 0, 5), random.nextBoolean() ? judge : PaperMarks.NONE); break;
             case 2: case 3: call("tie", judge, some(c, 0, Math.max(0, judges - 1)), some(c, -1, 1)); break;
@@ -119,7 +125,7 @@ public final class SlowModelTest {
             case 8: call("set", some(c, 0, 1), judge, 1 << random.nextInt(2) | random.nextInt(2) << 5); break;
             case 9: call("set", some(c, 0, 2), paper, some(c, -1, 63)); break;
             case 10: call("set", 2, paper, some(c, -1, 9)); break;
-            case 11: text(c); break;
+            case TEXT: text(c); break;
             case 12: call("fault"); break;
             case 13: call(random.nextInt(8) == 0 ? "wipe" : "rule"); break;
             case 14: call("yes", paper); break;
