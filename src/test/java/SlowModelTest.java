@@ -6,10 +6,10 @@ import java.util.Map;
 import java.util.Random;
 
 /**
- * Runs of chance calls, 512 or (for matches) fewer, on the class and on the slow model; all answers must be
- * alike. The chance
- * is of fixed seeds, so that every run is the same each time. Some numbers are wild, so that calls
- * are refused in every state, and a refused call that changed something is found by later calls.
+ * Runs of chance calls, 512 or (for matches) fewer, on the class and on the slow model; all answers
+ * must be alike. The chance is of fixed seeds, so that every run is the same each time. Some numbers are
+ * wild, so that calls are refused in every state, and a refused call that changed something is found by
+ * later calls.
  */
 public final class SlowModelTest {
     private static final int RUNS = 120;
